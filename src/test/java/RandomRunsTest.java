@@ -9,6 +9,7 @@ public final class RandomRunsTest {
     private final ForkWatch x = new ForkWatch();
     private final Model m = new Model();
     private final StringBuilder calls = new StringBuilder();
+    private int made = 0;
 
     private RandomRunsTest(long seed, boolean tampers) {
         random = new Random(seed);
@@ -23,7 +24,8 @@ public final class RandomRunsTest {
     }
 
     private void run() {
-        for (int call = 0; call < 512 && Expect.wrongSoFar() == 0; call++) {
+        // One turn makes three calls at most; after the 512th nothing is promised.
+        for (int turn = 0; turn < 512 && made < 510 && Expect.wrongSoFar() == 0; turn++) {
             int dice = random.nextInt(100);
             if (dice < 50) {
                 use();
@@ -48,6 +50,7 @@ public final class RandomRunsTest {
     }
 
     private void due(String call, long got, long want) {
+        made++;
         calls.append(' ').append(call);
         Expect.due(call, got, want);
     }
