@@ -11,6 +11,8 @@ public final class TheoremTest {
         falsifiedAnswer();
         falsifiedWrite();
         falsifiedOrder();
+        falsifiedOrderOfTheFirst();
+        falsifiedAnswerOfEachClient();
         nothingIsSaidOfChangedRuns();
         Expect.end();
     }
@@ -65,6 +67,29 @@ public final class TheoremTest {
         ForkWatch x = used();
         Collections.swap(notes(x), 2, 3);
         Expect.due("plain with two operations exchanged", x.plain(), false);
+    }
+
+    /** The same with the first two operations, the greater client's being the first. */
+    private static void falsifiedOrderOfTheFirst() throws ReflectiveOperationException {
+        ForkWatch x = new ForkWatch();
+        x.feed(1);
+        x.write(3, 0);
+        x.feed(2);
+        x.write(2, 1);
+        Expect.due("plain as it was", x.plain(), true);
+        Collections.swap(notes(x), 0, 1);
+        Expect.due("plain with the first two exchanged", x.plain(), false);
+    }
+
+    private static void falsifiedAnswerOfEachClient() throws ReflectiveOperationException {
+        for (int client = 0; client < 4; client++) {
+            ForkWatch x = new ForkWatch();
+            x.feed(1);
+            x.write((client + 1) % 4, 0);
+            x.read(client, 0);
+            flipContent(x, 1);
+            Expect.due("plain with another answer of client " + client, x.plain(), false);
+        }
     }
 
     private static void nothingIsSaidOfChangedRuns() throws ReflectiveOperationException {
