@@ -63,14 +63,16 @@ public final class ForkWatch {
         if (!isClient(client) || !isFile(file) || collectedLength > FILE_ROOM) {
             return NONE;
         }
+        // What was collected is gone also where a check stops the write; it stays with NONE alone.
+        int length = collectedLength;
+        collectedLength = 0;
         World world = worlds.get(shown[client]);
         int check = failedCheck(client, world);
         if (check != 0) {
             return stoppedBy(check);
         }
-        world.put(file, collected, collectedLength, sha);
-        history.note(true, client, file, collected, collectedLength);
-        collectedLength = 0;
+        world.put(file, collected, length, sha);
+        history.note(true, client, file, collected, length);
         makeStatement(client, world);
         return 1;
     }

@@ -5,6 +5,8 @@ public final class ChecksTest {
         eachByteOfAFileIsWatched();
         theOrderOfTheChecks();
         aStoppedOperationDoesNothingElse();
+        whatWasCollectedIsGoneWithEachCheck();
+        onlyNoneLetsItStayCollected();
         aWrongNumberWithARightMac();
         theZerosAreNotAsked();
         countsHaveNoSign();
@@ -101,21 +103,75 @@ public final class ChecksTest {
         for (int i = 0; i < before.length; i++) {
             before[i] = x.statement(-1, 1 + i / 84, i % 84);
         }
-        Expect.due("stopped write", x.write(2, 0), -2);
         Expect.due("stopped read", x.read(1, 4), -2);
+        Expect.due("a stopped read leaves what is collected", x.count(3), 2);
+        Expect.due("stopped write", x.write(2, 0), -2);
         for (int i = 0; i < before.length; i++) {
             Expect.due("remembered byte " + i, x.statement(-1, 1 + i / 84, i % 84), before[i]);
         }
-        Expect.due("collected stays", x.count(3), 2);
+        Expect.due("what was collected is gone", x.count(3), 0);
         Expect.due("got stays", x.got(0), 9);
         Expect.due("well", x.count(1), 2);
         Expect.due("stopped", x.count(2), 2);
         x.poke(0, 3, 60, 1);
         Expect.due("the file stayed", x.read(2, 0), 1);
         Expect.due("its byte", x.got(0), 9);
-        Expect.due("what stayed collected is written", x.write(2, 0), 1);
-        Expect.due("its length", x.read(2, 0), 2);
-        Expect.due("its byte 1", x.got(1), 6);
+        x.feed(7);
+        Expect.due("what is collected anew is written", x.write(2, 0), 1);
+        Expect.due("and that alone", x.read(2, 0), 1);
+        Expect.due("its byte 0", x.got(0), 7);
+    }
+
+    /** The same four faults as in the order of the checks; client 1 writes each time. */
+    private static void whatWasCollectedIsGoneWithEachCheck() {
+        ForkWatch x = new ForkWatch();
+        x.feed(7);
+        x.write(0, 0);
+        x.split(0);
+        x.show(1, 1);
+        x.show(3, 1);
+        x.read(1, 1);
+        x.read(3, 1);
+        x.read(0, 1);
+        x.graft(0, 3, 1);
+        x.spoil(0, 0, 0, 1);
+        x.poke(0, 2, 83, 1);
+        x.show(1, 0);
+        stoppedAndGone(x, -2);
+        x.poke(0, 2, 83, 1);
+        stoppedAndGone(x, -3);
+        x.graft(0, 1, 1);
+        stoppedAndGone(x, -4);
+        x.graft(0, 0, 1);
+        stoppedAndGone(x, -5);
+        x.spoil(0, 0, 0, 1);
+        Expect.due("a write of nothing", x.write(1, 0), 1);
+        Expect.due("its length", x.read(1, 0), 0);
+    }
+
+    /** Twelve bytes each time: if one stayed, the next write would answer NONE. */
+    private static void stoppedAndGone(ForkWatch x, int answer) {
+        for (int i = 0; i < 12; i++) {
+            x.feed(i);
+        }
+        Expect.due("a stopped write", x.write(1, 0), answer);
+        Expect.due("collected behind " + answer, x.count(3), 0);
+        Expect.due("digest of nothing behind " + answer, x.digest(0, 0), Model.sha()[0] & 255);
+    }
+
+    private static void onlyNoneLetsItStayCollected() {
+        ForkWatch x = new ForkWatch();
+        x.poke(0, 0, 0, 1);
+        for (int i = 0; i < 12; i++) {
+            x.feed(i);
+        }
+        Expect.due("no such client", x.write(4, 0), -9);
+        Expect.due("no such file", x.write(0, 16), -9);
+        Expect.due("twelve stay", x.count(3), 12);
+        x.feed(12);
+        Expect.due("more than 12 bytes, and a check that would stop it", x.write(0, 0), -9);
+        Expect.due("thirteen stay", x.count(3), 13);
+        Expect.due("none of them was stopped by a check", x.count(2), 0);
     }
 
     private static void aWrongNumberWithARightMac() {

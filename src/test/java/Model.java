@@ -146,7 +146,8 @@ final class Model {
         return Arrays.equals(told, root(world.files)) ? 0 : 4;
     }
 
-    private int operate(int client, int file, boolean writes) {
+    /** Content that is null is not written: the operation reads then. */
+    private int operate(int client, int file, byte[] content) {
         World world = worlds.get(shown[client]);
         int check = check(client, world);
         if (check != 0) {
@@ -155,16 +156,15 @@ final class Model {
         }
         long[] counts = counts(world.statements[greatest(world)]);
         counts[client]++;
-        if (writes) {
-            world.files[file] = collected;
-            collected = new byte[0];
+        if (content != null) {
+            world.files[file] = content;
         } else {
             lastRead = world.files[file];
         }
         remembered[client] = signed(client, counts, root(world.files));
         world.statements[client] = remembered[client];
         well++;
-        return writes ? 1 : lastRead.length;
+        return content != null ? 1 : lastRead.length;
     }
 
     boolean feed(int b) {
@@ -177,11 +177,16 @@ final class Model {
     }
 
     int write(int client, int file) {
-        return in(client, 4) && in(file, 16) && collected.length <= 12 ? operate(client, file, true) : -9;
+        if (!in(client, 4) || !in(file, 16) || collected.length > 12) {
+            return -9;
+        }
+        byte[] content = collected;
+        collected = new byte[0];
+        return operate(client, file, content);
     }
 
     int read(int client, int file) {
-        return in(client, 4) && in(file, 16) ? operate(client, file, false) : -9;
+        return in(client, 4) && in(file, 16) ? operate(client, file, null) : -9;
     }
 
     int got(int i) {

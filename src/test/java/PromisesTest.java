@@ -115,7 +115,23 @@ public final class PromisesTest {
         Expect.due("they stay", x.count(3), 13);
         Expect.due("NONE is not stopped by a check", x.count(2), 0);
         readsAs(x, 0, 15, 43);
+        stoppedWrite();
         writeStatement();
+    }
+
+    private static void stoppedWrite() {
+        ForkWatch x = new ForkWatch();
+        put(x, 0, 1, 6, 7);
+        x.spoil(0, 1, 0, 1);
+        feedAll(x, 1, 2, 3, 4, 5, 6, 7, 8);
+        Expect.due("write beside a spoilt file", x.write(0, 0), -5);
+        Expect.due("it is gone all the same", x.count(3), 0);
+        feedAll(x, 1, 2, 3, 4, 5);
+        Expect.due("write once more", x.write(0, 0), -5);
+        x.spoil(0, 1, 0, 1);
+        readsAs(x, 0, 0);
+        put(x, 0, 0, 9);
+        readsAs(x, 0, 0, 9);
     }
 
     private static void writeStatement() {
@@ -468,12 +484,13 @@ public final class PromisesTest {
         Expect.due("read", x.read(0, 0), 0);
         Expect.due("read", x.read(0, 0), 0);
         Expect.due("write", x.write(0, 0), 1);
-        feedAll(x, 1, 2, 3);
+        feedAll(x, 1);
         x.show(0, 1);
         x.show(2, 2);
         x.show(3, 1);
         Expect.due("read", x.read(0, 0), -3);
         Expect.due("write", x.write(0, 0), -3);
+        feedAll(x, 1, 2, 3);
         Expect.due("no operation", x.read(0, 99), -9);
         int[] counts = {3, 3, 2, 3, 1, 0, 2, 1};
         for (int what = 0; what < 8; what++) {
