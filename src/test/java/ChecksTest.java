@@ -17,24 +17,6 @@ public final class ChecksTest {
         Expect.end();
     }
 
-    /** A MAC can be had from digest(1, ..), so a run of calls can put any statement into a world. */
-    private static void forge(ForkWatch x, int world, int client, byte[] wanted) {
-        for (int i = 0; i < 84; i++) {
-            int mask = x.statement(world, client, i) ^ (wanted[i] & 255);
-            if (mask != 0) {
-                x.poke(world, client, i, mask);
-            }
-        }
-    }
-
-    private static byte[] emptyRoot() {
-        return Model.root(new byte[16][0]);
-    }
-
-    private static long[] counts(long a, long b, long c, long d) {
-        return new long[] {a, b, c, d};
-    }
-
     private static void eachByteOfAStatementIsWatched() {
         ForkWatch x = new ForkWatch();
         for (int i = 0; i < 84; i++) {
@@ -176,24 +158,24 @@ public final class ChecksTest {
 
     private static void aWrongNumberWithARightMac() {
         ForkWatch x = new ForkWatch();
-        forge(x, 0, 2, Model.signed(3, counts(0, 0, 0, 0), emptyRoot()));
+        Calls.forge(x, 0, 2, Model.signed(3, Calls.counts(0, 0, 0, 0), Calls.emptyRoot()));
         Expect.due("number 3 in the place of 2", x.read(0, 0), -2);
-        forge(x, 0, 2, Model.signed(2, counts(0, 0, 0, 0), emptyRoot()));
+        Calls.forge(x, 0, 2, Model.signed(2, Calls.counts(0, 0, 0, 0), Calls.emptyRoot()));
         Expect.due("number 2", x.read(0, 0), 0);
     }
 
     private static void theZerosAreNotAsked() {
         ForkWatch x = new ForkWatch();
-        byte[] body = java.util.Arrays.copyOf(Model.signed(2, counts(0, 0, 0, 0), emptyRoot()), 52);
+        byte[] body = java.util.Arrays.copyOf(Model.signed(2, Calls.counts(0, 0, 0, 0), Calls.emptyRoot()), 52);
         body[2] = 1;
-        forge(x, 0, 2, Model.joined(body));
+        Calls.forge(x, 0, 2, Model.joined(body));
         Expect.due("1 in the place of a 0, with a right MAC", x.read(0, 0), 0);
         Expect.due("the same, for the client whose statement it is", x.read(2, 0), -3);
     }
 
     private static void countsHaveNoSign() {
         ForkWatch x = new ForkWatch();
-        forge(x, 0, 3, Model.signed(3, counts(0x80000000L, 0x01020304L, 0, 0), emptyRoot()));
+        Calls.forge(x, 0, 3, Model.signed(3, Calls.counts(0x80000000L, 0x01020304L, 0, 0), Calls.emptyRoot()));
         Expect.due("read", x.read(0, 0), 0);
         Expect.due("highest byte", x.statement(-1, 0, 4), 128);
         Expect.due("lowest byte", x.statement(-1, 0, 7), 1);
@@ -204,18 +186,18 @@ public final class ChecksTest {
     private static void ofEqualOnesTheLesserClients() {
         byte[] wrongRoot = Model.sha(new byte[] {1});
         ForkWatch x = new ForkWatch();
-        forge(x, 0, 1, Model.signed(1, counts(0, 1, 1, 0), emptyRoot()));
-        forge(x, 0, 2, Model.signed(2, counts(0, 1, 1, 0), wrongRoot));
+        Calls.forge(x, 0, 1, Model.signed(1, Calls.counts(0, 1, 1, 0), Calls.emptyRoot()));
+        Calls.forge(x, 0, 2, Model.signed(2, Calls.counts(0, 1, 1, 0), wrongRoot));
         Expect.due("the lesser one's root is right", x.read(0, 0), 0);
         ForkWatch y = new ForkWatch();
-        forge(y, 0, 1, Model.signed(1, counts(0, 1, 1, 0), wrongRoot));
-        forge(y, 0, 2, Model.signed(2, counts(0, 1, 1, 0), emptyRoot()));
+        Calls.forge(y, 0, 1, Model.signed(1, Calls.counts(0, 1, 1, 0), wrongRoot));
+        Calls.forge(y, 0, 2, Model.signed(2, Calls.counts(0, 1, 1, 0), Calls.emptyRoot()));
         Expect.due("the lesser one's root is wrong", y.read(0, 0), -5);
     }
 
     private static void theGreatestNeedNotCountItself() {
         ForkWatch x = new ForkWatch();
-        forge(x, 0, 1, Model.signed(1, counts(0, 0, 5, 0), emptyRoot()));
+        Calls.forge(x, 0, 1, Model.signed(1, Calls.counts(0, 0, 5, 0), Calls.emptyRoot()));
         Expect.due("read", x.read(0, 0), 0);
         Expect.due("seen of 0", x.seen(0, 0), 1);
         Expect.due("seen of 1", x.seen(0, 1), 0);
@@ -224,7 +206,7 @@ public final class ChecksTest {
 
     private static void theOwnCountIsOneMoreThanTheGreatestOnes() {
         ForkWatch x = new ForkWatch();
-        forge(x, 0, 1, Model.signed(1, counts(7, 1, 0, 0), emptyRoot()));
+        Calls.forge(x, 0, 1, Model.signed(1, Calls.counts(7, 1, 0, 0), Calls.emptyRoot()));
         Expect.due("read", x.read(0, 0), 0);
         Expect.due("seen of 0", x.seen(0, 0), 8);
     }
@@ -238,8 +220,8 @@ public final class ChecksTest {
                 long[] other = new long[4];
                 one[a] = 1;
                 other[b] = 1;
-                forge(x, 0, a, Model.signed(a, one, emptyRoot()));
-                forge(x, 0, b, Model.signed(b, other, emptyRoot()));
+                Calls.forge(x, 0, a, Model.signed(a, one, Calls.emptyRoot()));
+                Calls.forge(x, 0, b, Model.signed(b, other, Calls.emptyRoot()));
                 int reader = a != 0 ? 0 : b != 1 ? 1 : 2;
                 Expect.due("read when " + a + " and " + b + " are out of line", x.read(reader, 0), -4);
             }

@@ -25,43 +25,12 @@ public final class PromisesTest {
         Expect.end();
     }
 
-    private static void feedAll(ForkWatch x, int... bytes) {
-        for (int b : bytes) {
-            Expect.due("feed(" + b + ")", x.feed(b), true);
-        }
-    }
-
-    private static void put(ForkWatch x, int client, int file, int... bytes) {
-        feedAll(x, bytes);
-        Expect.due("write(" + client + ", " + file + ")", x.write(client, file), 1);
-    }
-
-    private static void readsAs(ForkWatch x, int client, int file, int... bytes) {
-        Expect.due("read(" + client + ", " + file + ")", x.read(client, file), bytes.length);
-        for (int i = 0; i < bytes.length; i++) {
-            Expect.due("got(" + i + ")", x.got(i), bytes[i]);
-        }
-        Expect.due("got behind the end", x.got(bytes.length), -1);
-    }
-
-    private static void saysAs(ForkWatch x, int world, int client, byte[] statement) {
-        for (int i = 0; i < 84; i++) {
-            Expect.due("statement(" + world + ", " + client + ", " + i + ")", x.statement(world, client, i), statement[i] & 255);
-        }
-    }
-
-    private static void seesAs(ForkWatch x, int client, int... counts) {
-        for (int k = 0; k < 4; k++) {
-            Expect.due("seen(" + client + ", " + k + ")", x.seen(client, k), counts[k]);
-        }
-    }
-
     private static void promise1NewObject() {
         byte[] root = Model.root(new byte[16][0]);
         for (int c = 0; c < 4; c++) {
             ForkWatch x = new ForkWatch();
-            saysAs(x, 0, c, Model.signed(c, new long[4], root));
-            saysAs(x, -1, c, Model.signed(c, new long[4], root));
+            Calls.saysAs(x, 0, c, Model.signed(c, new long[4], root));
+            Calls.saysAs(x, -1, c, Model.signed(c, new long[4], root));
         }
         ForkWatch y = new ForkWatch();
         int[] counts = {1, 0, 0, 0, 0, 0, 0, 0};
@@ -81,9 +50,9 @@ public final class PromisesTest {
             Expect.due("feed(" + wrong + ")", x.feed(wrong), false);
         }
         Expect.due("nothing collected", x.count(3), 0);
-        feedAll(x, 0, 255);
+        Calls.feedAll(x, 0, 255);
         for (int i = 2; i < 64; i++) {
-            feedAll(x, i);
+            Calls.feedAll(x, i);
         }
         Expect.due("collected", x.count(3), 64);
         Expect.due("feed without room", x.feed(1), false);
@@ -92,17 +61,17 @@ public final class PromisesTest {
 
     private static void promise3Write() {
         ForkWatch x = new ForkWatch();
-        put(x, 0, 0, 1, 2, 3, 4, 5, 6, 7, 8, 9, 10, 11, 255);
+        Calls.put(x, 0, 0, 1, 2, 3, 4, 5, 6, 7, 8, 9, 10, 11, 255);
         Expect.due("it is gone", x.count(3), 0);
-        readsAs(x, 3, 0, 1, 2, 3, 4, 5, 6, 7, 8, 9, 10, 11, 255);
-        put(x, 1, 0, 42);
-        readsAs(x, 2, 0, 42);
-        put(x, 1, 15, 43);
-        readsAs(x, 0, 15, 43);
-        readsAs(x, 0, 14);
-        put(x, 2, 0);
-        readsAs(x, 2, 0);
-        feedAll(x, 5);
+        Calls.readsAs(x, 3, 0, 1, 2, 3, 4, 5, 6, 7, 8, 9, 10, 11, 255);
+        Calls.put(x, 1, 0, 42);
+        Calls.readsAs(x, 2, 0, 42);
+        Calls.put(x, 1, 15, 43);
+        Calls.readsAs(x, 0, 15, 43);
+        Calls.readsAs(x, 0, 14);
+        Calls.put(x, 2, 0);
+        Calls.readsAs(x, 2, 0);
+        Calls.feedAll(x, 5);
         for (int none : NO_CLIENT) {
             Expect.due("write by client " + none, x.write(none, 0), -9);
         }
@@ -110,51 +79,51 @@ public final class PromisesTest {
             Expect.due("write to file " + none, x.write(0, none), -9);
         }
         Expect.due("it stays", x.count(3), 1);
-        feedAll(x, 0, 0, 0, 0, 0, 0, 0, 0, 0, 0, 0, 0);
+        Calls.feedAll(x, 0, 0, 0, 0, 0, 0, 0, 0, 0, 0, 0, 0);
         Expect.due("write of 13 bytes", x.write(0, 0), -9);
         Expect.due("they stay", x.count(3), 13);
         Expect.due("NONE is not stopped by a check", x.count(2), 0);
-        readsAs(x, 0, 15, 43);
+        Calls.readsAs(x, 0, 15, 43);
         stoppedWrite();
         writeStatement();
     }
 
     private static void stoppedWrite() {
         ForkWatch x = new ForkWatch();
-        put(x, 0, 1, 6, 7);
+        Calls.put(x, 0, 1, 6, 7);
         x.spoil(0, 1, 0, 1);
-        feedAll(x, 1, 2, 3, 4, 5, 6, 7, 8);
+        Calls.feedAll(x, 1, 2, 3, 4, 5, 6, 7, 8);
         Expect.due("write beside a spoilt file", x.write(0, 0), -5);
         Expect.due("it is gone all the same", x.count(3), 0);
-        feedAll(x, 1, 2, 3, 4, 5);
+        Calls.feedAll(x, 1, 2, 3, 4, 5);
         Expect.due("write once more", x.write(0, 0), -5);
         x.spoil(0, 1, 0, 1);
-        readsAs(x, 0, 0);
-        put(x, 0, 0, 9);
-        readsAs(x, 0, 0, 9);
+        Calls.readsAs(x, 0, 0);
+        Calls.put(x, 0, 0, 9);
+        Calls.readsAs(x, 0, 0, 9);
     }
 
     private static void writeStatement() {
         ForkWatch x = new ForkWatch();
         byte[][] files = new byte[16][0];
-        put(x, 2, 9, 200, 100);
+        Calls.put(x, 2, 9, 200, 100);
         files[9] = new byte[] {(byte) 200, 100};
         byte[] first = Model.signed(2, new long[] {0, 0, 1, 0}, Model.root(files));
-        saysAs(x, 0, 2, first);
-        saysAs(x, -1, 2, first);
-        put(x, 1, 10, 1);
+        Calls.saysAs(x, 0, 2, first);
+        Calls.saysAs(x, -1, 2, first);
+        Calls.put(x, 1, 10, 1);
         files[10] = new byte[] {1};
-        saysAs(x, 0, 1, Model.signed(1, new long[] {0, 1, 1, 0}, Model.root(files)));
+        Calls.saysAs(x, 0, 1, Model.signed(1, new long[] {0, 1, 1, 0}, Model.root(files)));
     }
 
     private static void promise4Read() {
         ForkWatch x = new ForkWatch();
-        put(x, 0, 7, 3, 1, 4);
-        readsAs(x, 1, 7, 3, 1, 4);
+        Calls.put(x, 0, 7, 3, 1, 4);
+        Calls.readsAs(x, 1, 7, 3, 1, 4);
         byte[][] files = new byte[16][0];
         files[7] = new byte[] {3, 1, 4};
-        saysAs(x, 0, 1, Model.signed(1, new long[] {1, 1, 0, 0}, Model.root(files)));
-        saysAs(x, -1, 1, Model.signed(1, new long[] {1, 1, 0, 0}, Model.root(files)));
+        Calls.saysAs(x, 0, 1, Model.signed(1, new long[] {1, 1, 0, 0}, Model.root(files)));
+        Calls.saysAs(x, -1, 1, Model.signed(1, new long[] {1, 1, 0, 0}, Model.root(files)));
         for (int none : NO_CLIENT) {
             Expect.due("read by client " + none, x.read(none, 7), -9);
         }
@@ -164,7 +133,7 @@ public final class PromisesTest {
         Expect.due("got stays", x.got(2), 4);
         Expect.due("well", x.count(1), 2);
         Expect.due("stopped", x.count(2), 0);
-        feedAll(x, 1);
+        Calls.feedAll(x, 1);
         Expect.due("read", x.read(1, 7), 3);
         Expect.due("a read leaves what is collected", x.count(3), 1);
         x.spoil(0, 7, 2, 255);
@@ -174,26 +143,26 @@ public final class PromisesTest {
     private static void promise5Got() {
         ForkWatch x = new ForkWatch();
         Expect.due("got before a read", x.got(0), -1);
-        put(x, 0, 0, 255, 0, 128);
+        Calls.put(x, 0, 0, 255, 0, 128);
         Expect.due("got after a write alone", x.got(0), -1);
-        readsAs(x, 0, 0, 255, 0, 128);
+        Calls.readsAs(x, 0, 0, 255, 0, 128);
         for (int none : new int[] {-1, 3, 12, Integer.MIN_VALUE, Integer.MAX_VALUE}) {
             Expect.due("got(" + none + ")", x.got(none), -1);
         }
-        put(x, 0, 0, 9, 9, 9, 9);
+        Calls.put(x, 0, 0, 9, 9, 9, 9);
         Expect.due("got is not touched by a write", x.got(0), 255);
         x.spoil(0, 0, 0, 1);
         Expect.due("read that is stopped", x.read(1, 0), -5);
         Expect.due("got of the read before", x.got(2), 128);
         Expect.due("its end", x.got(3), -1);
         x.spoil(0, 0, 0, 1);
-        readsAs(x, 1, 5);
+        Calls.readsAs(x, 1, 5);
         Expect.due("got after a read of nothing", x.got(0), -1);
     }
 
     private static void promise6Split() {
         ForkWatch x = new ForkWatch();
-        put(x, 0, 0, 1);
+        Calls.put(x, 0, 0, 1);
         for (int none : new int[] {-1, 1, 6, Integer.MIN_VALUE, Integer.MAX_VALUE}) {
             Expect.due("split(" + none + ")", x.split(none), -1);
         }
@@ -202,14 +171,14 @@ public final class PromisesTest {
             Expect.due("a twin's statement", x.statement(1, 0, i), x.statement(0, 0, i));
         }
         x.show(1, 1);
-        put(x, 1, 1, 2);
+        Calls.put(x, 1, 1, 2);
         Expect.due("split(1)", x.split(1), 2);
         x.show(2, 2);
-        readsAs(x, 2, 0, 1);
-        readsAs(x, 2, 1, 2);
-        seesAs(x, 2, 1, 1, 2, 0);
-        readsAs(x, 3, 1);
-        seesAs(x, 3, 1, 0, 0, 1);
+        Calls.readsAs(x, 2, 0, 1);
+        Calls.readsAs(x, 2, 1, 2);
+        Calls.seesAs(x, 2, 1, 1, 2, 0);
+        Calls.readsAs(x, 3, 1);
+        Calls.seesAs(x, 3, 1, 0, 0, 1);
         Expect.due("statement of the world that it was split from", x.statement(1, 2, 15), 0);
         Expect.due("split(0)", x.split(0), 3);
         Expect.due("split(0)", x.split(0), 4);
@@ -222,11 +191,11 @@ public final class PromisesTest {
 
     private static void spoilsApart() {
         ForkWatch x = new ForkWatch();
-        put(x, 0, 3, 1, 2);
+        Calls.put(x, 0, 3, 1, 2);
         x.split(0);
         x.spoil(1, 3, 0, 1);
         x.poke(1, 2, 5, 1);
-        readsAs(x, 0, 3, 1, 2);
+        Calls.readsAs(x, 0, 3, 1, 2);
         Expect.due("a byte poked in the twin", x.statement(0, 2, 5), 0);
     }
 
@@ -246,20 +215,20 @@ public final class PromisesTest {
         }
         Expect.due("shown", x.count(7), 1);
         Expect.due("shown to another", x.count(6), 0);
-        put(x, 3, 0, 77);
-        readsAs(x, 0, 0);
+        Calls.put(x, 3, 0, 77);
+        Calls.readsAs(x, 0, 0);
         x.show(1, 1);
-        readsAs(x, 1, 0, 77);
+        Calls.readsAs(x, 1, 0, 77);
         x.show(0, 1);
         Expect.due("a client that went on elsewhere", x.read(0, 0), -3);
         x.show(0, 0);
-        readsAs(x, 0, 0);
+        Calls.readsAs(x, 0, 0);
     }
 
     private static void promise8Graft() {
         ForkWatch x = new ForkWatch();
         x.split(0);
-        put(x, 1, 0, 5);
+        Calls.put(x, 1, 0, 5);
         int[] theirs = new int[84];
         for (int i = 0; i < 84; i++) {
             theirs[i] = x.statement(0, 1, i);
@@ -283,7 +252,7 @@ public final class PromisesTest {
         for (int none : NO_CLIENT) {
             Expect.due("graft of client " + none, x.graft(0, none, 0), false);
         }
-        readsAs(x, 0, 0, 5);
+        Calls.readsAs(x, 0, 0, 5);
     }
 
     private static void promise9Poke() {
@@ -316,13 +285,13 @@ public final class PromisesTest {
 
     private static void promise10Spoil() {
         ForkWatch x = new ForkWatch();
-        put(x, 0, 15, 1, 2, 3);
+        Calls.put(x, 0, 15, 1, 2, 3);
         Expect.due("spoil(0, 15, 2, 255)", x.spoil(0, 15, 2, 255), true);
         Expect.due("read", x.read(1, 15), -5);
         Expect.due("spoil(0, 15, 2, 254)", x.spoil(0, 15, 2, 254), true);
         Expect.due("read of another file", x.read(1, 0), -5);
         Expect.due("spoil(0, 15, 2, 1)", x.spoil(0, 15, 2, 1), true);
-        readsAs(x, 1, 15, 1, 2, 3);
+        Calls.readsAs(x, 1, 15, 1, 2, 3);
         for (int none : new int[] {-1, 3, 11, 12, Integer.MIN_VALUE, Integer.MAX_VALUE}) {
             Expect.due("spoil of byte " + none, x.spoil(0, 15, none, 1), false);
         }
@@ -336,22 +305,22 @@ public final class PromisesTest {
         for (int none : new int[] {-1, 1, 6, Integer.MIN_VALUE, Integer.MAX_VALUE}) {
             Expect.due("spoil of world " + none, x.spoil(none, 15, 0, 1), false);
         }
-        put(x, 2, 15, 8);
+        Calls.put(x, 2, 15, 8);
         Expect.due("spoil behind the end of what was longer", x.spoil(0, 15, 1, 1), false);
-        readsAs(x, 1, 15, 8);
+        Calls.readsAs(x, 1, 15, 8);
     }
 
     private static void promise11Exchange() {
         ForkWatch x = new ForkWatch();
         Expect.due("exchange of first statements", x.exchange(0, 3), 0);
-        put(x, 0, 0, 1);
+        Calls.put(x, 0, 0, 1);
         Expect.due("exchange(0, 1)", x.exchange(0, 1), 0);
         Expect.due("exchange(1, 0)", x.exchange(1, 0), 0);
         x.split(0);
         x.show(1, 1);
-        put(x, 1, 0, 2);
+        Calls.put(x, 1, 0, 2);
         Expect.due("exchange, one is behind the other", x.exchange(0, 1), 0);
-        put(x, 0, 0, 3);
+        Calls.put(x, 0, 0, 3);
         Expect.due("exchange of parted ones", x.exchange(0, 1), 1);
         Expect.due("the other way round", x.exchange(1, 0), 1);
         Expect.due("with one that did nothing", x.exchange(1, 3), 0);
@@ -372,14 +341,14 @@ public final class PromisesTest {
         ForkWatch x = new ForkWatch();
         x.split(0);
         x.show(3, 1);
-        put(x, 3, 4, 6);
+        Calls.put(x, 3, 4, 6);
         byte[][] files = new byte[16][0];
         byte[] before = Model.signed(3, new long[4], Model.root(files));
         files[4] = new byte[] {6};
         byte[] after = Model.signed(3, new long[] {0, 0, 0, 1}, Model.root(files));
-        saysAs(x, 0, 3, before);
-        saysAs(x, 1, 3, after);
-        saysAs(x, -1, 3, after);
+        Calls.saysAs(x, 0, 3, before);
+        Calls.saysAs(x, 1, 3, after);
+        Calls.saysAs(x, -1, 3, after);
         for (int none : new int[] {-2, 2, 6, Integer.MIN_VALUE, Integer.MAX_VALUE}) {
             Expect.due("statement of world " + none, x.statement(none, 0, 0), -1);
         }
@@ -395,15 +364,15 @@ public final class PromisesTest {
 
     private static void promise13Seen() {
         ForkWatch x = new ForkWatch();
-        seesAs(x, 2, 0, 0, 0, 0);
-        put(x, 2, 0, 1);
-        put(x, 2, 1, 1);
-        readsAs(x, 1, 0, 1);
-        seesAs(x, 0, 0, 0, 0, 0);
-        seesAs(x, 1, 0, 1, 2, 0);
-        seesAs(x, 2, 0, 0, 2, 0);
-        readsAs(x, 3, 0, 1);
-        seesAs(x, 3, 0, 1, 2, 1);
+        Calls.seesAs(x, 2, 0, 0, 0, 0);
+        Calls.put(x, 2, 0, 1);
+        Calls.put(x, 2, 1, 1);
+        Calls.readsAs(x, 1, 0, 1);
+        Calls.seesAs(x, 0, 0, 0, 0, 0);
+        Calls.seesAs(x, 1, 0, 1, 2, 0);
+        Calls.seesAs(x, 2, 0, 0, 2, 0);
+        Calls.readsAs(x, 3, 0, 1);
+        Calls.seesAs(x, 3, 0, 1, 2, 1);
         for (int none : NO_CLIENT) {
             Expect.due("seen(" + none + ", 0)", x.seen(none, 0), -1);
             Expect.due("seen(0, " + none + ")", x.seen(0, none), -1);
@@ -417,11 +386,11 @@ public final class PromisesTest {
         for (int i = 0; i < 300; i++) {
             Expect.due("read " + i, x.read(1, 0), 0);
         }
-        seesAs(x, 1, 0, 300, 0, 0);
+        Calls.seesAs(x, 1, 0, 300, 0, 0);
         Expect.due("the higher byte", x.statement(0, 1, 10), 1);
         Expect.due("the lower byte", x.statement(0, 1, 11), 44);
         Expect.due("read", x.read(0, 0), 0);
-        seesAs(x, 0, 1, 300, 0, 0);
+        Calls.seesAs(x, 0, 1, 300, 0, 0);
         Expect.due("plain()", x.plain(), true);
     }
 
@@ -430,7 +399,7 @@ public final class PromisesTest {
             ForkWatch x = new ForkWatch();
             byte[] bytes = new byte[length];
             for (int i = 0; i < length; i++) {
-                feedAll(x, 255 - 3 * i);
+                Calls.feedAll(x, 255 - 3 * i);
                 bytes[i] = (byte) (255 - 3 * i);
             }
             byte[] digest = Model.sha(bytes);
@@ -454,17 +423,17 @@ public final class PromisesTest {
     /** TheoremTest looks whether plain() looks at all. */
     private static void promise15Plain() {
         ForkWatch x = new ForkWatch();
-        put(x, 0, 0, 1);
-        readsAs(x, 1, 0, 1);
+        Calls.put(x, 0, 0, 1);
+        Calls.readsAs(x, 1, 0, 1);
         x.split(0);
         x.show(1, 1);
         x.show(2, 1);
-        put(x, 1, 0, 2);
-        put(x, 0, 0, 3);
-        put(x, 2, 0, 4);
-        readsAs(x, 1, 0, 4);
-        readsAs(x, 3, 0, 3);
-        readsAs(x, 0, 0, 3);
+        Calls.put(x, 1, 0, 2);
+        Calls.put(x, 0, 0, 3);
+        Calls.put(x, 2, 0, 4);
+        Calls.readsAs(x, 1, 0, 4);
+        Calls.readsAs(x, 3, 0, 3);
+        Calls.readsAs(x, 0, 0, 3);
         Expect.due("parted", x.exchange(0, 1), 1);
         Expect.due("plain() of parted worlds", x.plain(), true);
         x.show(3, 1);
@@ -480,17 +449,17 @@ public final class PromisesTest {
         ForkWatch x = new ForkWatch();
         x.split(0);
         x.split(0);
-        feedAll(x, 1, 2);
+        Calls.feedAll(x, 1, 2);
         Expect.due("read", x.read(0, 0), 0);
         Expect.due("read", x.read(0, 0), 0);
         Expect.due("write", x.write(0, 0), 1);
-        feedAll(x, 1);
+        Calls.feedAll(x, 1);
         x.show(0, 1);
         x.show(2, 2);
         x.show(3, 1);
         Expect.due("read", x.read(0, 0), -3);
         Expect.due("write", x.write(0, 0), -3);
-        feedAll(x, 1, 2, 3);
+        Calls.feedAll(x, 1, 2, 3);
         Expect.due("no operation", x.read(0, 99), -9);
         int[] counts = {3, 3, 2, 3, 1, 0, 2, 1};
         for (int what = 0; what < 8; what++) {
