@@ -480,8 +480,8 @@ public final class PromiseEdgesTest {
         pokes.on(after);
         for (int i = 0; i < 84; i++) {
             for (int world = -1; world < 2; world++) {
-                int changed = world == 1 && i == 83 ? 1 : 0;
-                Expect.due("byte " + i + " in world " + world, after.statement(world, 2, i), before.statement(world, 2, i) ^ changed);
+                int due = before.statement(world, 2, i) ^ (world == 1 && i == 83 ? 1 : 0);
+                Expect.due("byte " + i + " in world " + world, after.statement(world, 2, i), due);
             }
             Expect.due("byte " + i + " of client 3", after.statement(1, 3, i), before.statement(1, 3, i));
         }
